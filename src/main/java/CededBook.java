@@ -350,44 +350,41 @@ public final class CededBook {
         return (int) (ceded * amount / sum);
     }
 
-    private int quotaPart(int risk, int amount) {
-        int left = amount - surplusPart(risk, amount);
+    private int quotaPart(int risk, int left) {
         return hundredths(left, term(at(riskYear, risk), QUOTA_RATE));
-    }
-
-    private int leftByShares(int risk, int amount) {
-        return amount - surplusPart(risk, amount) - quotaPart(risk, amount);
-    }
-
-    private int excessPart(int risk, int amount) {
-        int year = at(riskYear, risk);
-        return slice(leftByShares(risk, amount), term(year, RISK_PRIORITY), term(year, RISK_LAYER));
     }
 
     private int premiumPart(int risk, int who) {
         int amount = at(riskPremium, risk);
+        int surplus = surplusPart(risk, amount);
+        int quota = quotaPart(risk, amount - surplus);
         switch (who) {
             case SURPLUS:
-                return surplusPart(risk, amount);
+                return surplus;
             case QUOTA:
-                return quotaPart(risk, amount);
+                return quota;
             default:
-                return leftByShares(risk, amount);
+                return amount - surplus - quota;
         }
     }
 
     private int lossPart(int loss, int who) {
         int risk = at(lossRisk, loss);
+        int year = at(riskYear, risk);
         int amount = at(lossAmount, loss);
+        int surplus = surplusPart(risk, amount);
+        int quota = quotaPart(risk, amount - surplus);
+        int left = amount - surplus - quota;
+        int excess = slice(left, term(year, RISK_PRIORITY), term(year, RISK_LAYER));
         switch (who) {
             case SURPLUS:
-                return surplusPart(risk, amount);
+                return surplus;
             case QUOTA:
-                return quotaPart(risk, amount);
+                return quota;
             case EXCESS:
-                return excessPart(risk, amount);
+                return excess;
             default:
-                return leftByShares(risk, amount) - excessPart(risk, amount);
+                return left - excess;
         }
     }
 

@@ -187,6 +187,13 @@ public final class AnswersTest {
             Check.is("19 again " + row[0] + ", losses of " + row[1], row[2],
                     book.reinstatement(0));
         }
+        CededBook least = new CededBook();
+        least.setEvents(0, 1, 3, 7);
+        least.write(10, 0);
+        least.lose(0, 0, 10);
+        least.lose(0, 1, 10);
+        Check.is("19 a layer of one cent", 14, least.reinstatement(0));
+        Check.throwing("19 no such year", Check.INDEX, () -> least.reinstatement(1));
     }
 
     private static void promise20() {
@@ -307,6 +314,16 @@ public final class AnswersTest {
         Check.is("23 the margin of all premiums", 70, book.carried(0));
         book.setProfit(0, 0);
         Check.is("22 no rate", 0, book.share(0));
+        book.setProfit(0, 10000);
+        book.change(0, 202);
+        Check.is("22 a cent of profit", 1, book.share(0));
+        book.change(0, 204);
+        Check.is("22 neither profit", 0, book.share(0));
+        Check.is("23 nor loss", 0, book.carried(0));
+        book.change(0, 206);
+        Check.is("23 a cent of loss", 1, book.carried(0));
+        book.setProfit(0, 0);
+        book.change(0, 140);
         Check.is("23 no rate", 0, book.carried(0));
     }
 

@@ -38,13 +38,31 @@ public final class TermsTest {
         Check.is("1 no quota", 0, book.part(0, CededBook.QUOTA));
         Check.is("1 no excess", 0, book.part(0, CededBook.EXCESS));
         Check.is("1 all kept", 10000000, book.part(0, CededBook.KEPT));
+        book.lose(0, 0, 10000000);
         Check.is("1 no excess by event", 0, book.byEvent(0, 0));
-        Check.is("1 all net", 10000000, book.net(0));
+        Check.is("1 all net", 20000000, book.net(0));
         Check.is("1 no reinstatement", 0, book.reinstatement(0));
         Check.is("1 no commission", 0, book.commission(0));
         Check.is("1 no share", 0, book.share(0));
         Check.is("1 nothing carried", 0, book.carried(0));
+        firstRates();
         twoObjectsAreApart();
+    }
+
+    /** The greatest premiums would show even the smallest rate that is not 0. */
+    private static void firstRates() {
+        CededBook book = new CededBook();
+        book.setShares(1000000, 0, 10000);
+        book.write(10000000, 1000000);
+        Check.is("1 greatest rate 0", 0, book.commission(0));
+        book.lose(0, 0, 10000000);
+        Check.is("1 least rate 0", 0, book.commission(0));
+        book.closeYear();
+        book.setShares(1000000, 10, 0);
+        book.write(10000000, 1000000);
+        Check.is("1 rate of sharing 0", 0, book.share(1));
+        book.lose(1, 0, 1000000);
+        Check.is("1 margin 0", 0, book.carried(1));
     }
 
     private static void twoObjectsAreApart() {
