@@ -1,7 +1,5 @@
 /** Promises 15 to 23: what there is. */
 public final class AnswersTest {
-    private static final int MIN = Integer.MIN_VALUE;
-    private static final int MAX = Integer.MAX_VALUE;
     private static final int SURPLUS = CededBook.SURPLUS;
     private static final int QUOTA = CededBook.QUOTA;
     private static final int EXCESS = CededBook.EXCESS;
@@ -22,7 +20,6 @@ public final class AnswersTest {
         promise21Ranges();
         promise22And23();
         promise22Margin();
-        years();
         greatestNumbers();
         Check.end();
     }
@@ -36,22 +33,12 @@ public final class AnswersTest {
 
     private static void promise15() {
         CededBook book = new CededBook();
-        Check.throwing("15 no risk at all", Check.INDEX, () -> book.premium(0, KEPT));
         book.setShares(50, 10, 3333);
         book.setExcess(0, 100);
         book.write(100, 101);
         Check.is("15 surplus, rounded down", 50, book.premium(0, SURPLUS));
         Check.is("15 quota of what is left, rounded down", 16, book.premium(0, QUOTA));
         Check.is("15 kept, the excess takes none", 35, book.premium(0, KEPT));
-        int[] nowhere = {1, -1, 15, MIN, MAX};
-        for (int risk : nowhere) {
-            Check.throwing("15 risk " + risk, Check.INDEX, () -> book.premium(risk, KEPT));
-            Check.throwing("15 the risk first", Check.INDEX, () -> book.premium(risk, 9));
-        }
-        int[] nobody = {EXCESS, 4, -1, MIN, MAX};
-        for (int who : nobody) {
-            Check.throwing("15 who " + who, Check.ARGUMENT, () -> book.premium(0, who));
-        }
     }
 
     private static void promise15Surplus() {
@@ -71,7 +58,6 @@ public final class AnswersTest {
 
     private static void promise16() {
         CededBook book = new CededBook();
-        Check.throwing("16 no loss at all", Check.INDEX, () -> book.part(0, KEPT));
         book.setShares(100, 4, 3000);
         book.setExcess(30, 40);
         book.write(1000, 900);
@@ -85,15 +71,6 @@ public final class AnswersTest {
         Check.is("16 quota of a changed loss", 14, book.part(0, QUOTA));
         Check.is("16 excess of a changed loss", 4, book.part(0, EXCESS));
         Check.is("16 kept of a changed loss", 30, book.part(0, KEPT));
-        int[] nowhere = {1, -1, 40, MIN, MAX};
-        for (int loss : nowhere) {
-            Check.throwing("16 loss " + loss, Check.INDEX, () -> book.part(loss, KEPT));
-            Check.throwing("16 the loss first", Check.INDEX, () -> book.part(loss, 4));
-        }
-        int[] nobody = {4, -1, MIN, MAX};
-        for (int who : nobody) {
-            Check.throwing("16 who " + who, Check.ARGUMENT, () -> book.part(0, who));
-        }
     }
 
     private static void promise17() {
@@ -114,11 +91,6 @@ public final class AnswersTest {
         Check.is("17 excess by risk alone", 40 + 26 + 12, book.borne(0, EXCESS));
         Check.is("17 kept, before the excess by event", 170 + 30 + 30, book.borne(0, KEPT));
         Check.is("17 the year of the risk", 4, book.borne(1, SURPLUS));
-        int[] nobody = {4, -1, MIN, MAX};
-        for (int who : nobody) {
-            Check.throwing("17 who " + who, Check.ARGUMENT, () -> book.borne(0, who));
-            Check.throwing("17 the year first", Check.INDEX, () -> book.borne(2, who));
-        }
     }
 
     private static void promise18() {
@@ -139,11 +111,6 @@ public final class AnswersTest {
         book.lose(1, 0, 70);
         Check.is("18 events of years are apart", 0, book.byEvent(0, 0));
         Check.is("18 the other year's", 20, book.byEvent(1, 0));
-        int[] nowhere = {4, -1, MIN, MAX};
-        for (int event : nowhere) {
-            Check.throwing("18 event " + event, Check.INDEX, () -> book.byEvent(0, event));
-        }
-        Check.throwing("18 year", Check.INDEX, () -> book.byEvent(2, 0));
     }
 
     private static void promise18Capacity() {
@@ -193,7 +160,6 @@ public final class AnswersTest {
         least.lose(0, 0, 10);
         least.lose(0, 1, 10);
         Check.is("19 a layer of one cent", 14, least.reinstatement(0));
-        Check.throwing("19 no such year", Check.INDEX, () -> least.reinstatement(1));
     }
 
     private static void promise20() {
@@ -325,30 +291,6 @@ public final class AnswersTest {
         book.setProfit(0, 0);
         book.change(0, 140);
         Check.is("23 no rate", 0, book.carried(0));
-    }
-
-    private static void years() {
-        CededBook book = new CededBook();
-        book.closeYear();
-        int[] nowhere = {2, 9, 10, -1, MIN, MAX};
-        for (int year : nowhere) {
-            Check.throwing("17 year " + year, Check.INDEX, () -> book.borne(year, KEPT));
-            Check.throwing("18 year " + year, Check.INDEX, () -> book.byEvent(year, 0));
-            Check.throwing("19 year " + year, Check.INDEX, () -> book.reinstatement(year));
-            Check.throwing("20 year " + year, Check.INDEX, () -> book.net(year));
-            Check.throwing("21 year " + year, Check.INDEX, () -> book.commission(year));
-            Check.throwing("22 year " + year, Check.INDEX, () -> book.share(year));
-            Check.throwing("23 year " + year, Check.INDEX, () -> book.carried(year));
-        }
-        for (int year = 0; year < 2; year++) {
-            Check.is("17 empty", 0, book.borne(year, KEPT));
-            Check.is("18 empty", 0, book.byEvent(year, 3));
-            Check.is("19 empty", 0, book.reinstatement(year));
-            Check.is("20 empty", 0, book.net(year));
-            Check.is("21 empty", 0, book.commission(year));
-            Check.is("22 empty", 0, book.share(year));
-            Check.is("23 empty", 0, book.carried(year));
-        }
     }
 
     private static void greatestNumbers() {

@@ -1,35 +1,15 @@
 /** Promises 7 to 14: risks, losses and years are entered and counted. */
 public final class EntriesTest {
-    private static final int MIN = Integer.MIN_VALUE;
-    private static final int MAX = Integer.MAX_VALUE;
-
     public static void main(String[] args) {
-        promise7Ranges();
         promise7Numbers();
-        promise8Refusals();
         promise8Numbers();
         promise8Order();
-        promise9Refusals();
         promise9Effect();
-        promise10Refusals();
         promise10Answer();
         promise10Freezes();
         promise11And12();
         promise13And14();
         Check.end();
-    }
-
-    private static void promise7Ranges() {
-        CededBook book = new CededBook();
-        int[][] wrong = {{0, 0}, {-1, 0}, {MIN, 0}, {10000001, 0}, {MAX, 0},
-            {1, -1}, {1, MIN}, {1, 1000001}, {1, MAX}};
-        for (int[] row : wrong) {
-            Check.throwing("7 write " + row[0] + " " + row[1], Check.ARGUMENT,
-                    () -> book.write(row[0], row[1]));
-        }
-        Check.is("7 nothing written", 0, book.risks());
-        Check.is("7 least", 0, book.write(1, 0));
-        Check.is("7 most", 1, book.write(10000000, 1000000));
     }
 
     private static void promise7Numbers() {
@@ -46,25 +26,6 @@ public final class EntriesTest {
         book.closeYear();
         Check.throwing("7 a sixteenth in another year", Check.STATE, () -> book.write(1, 1));
         Check.is("7 fifteen stand", 15, book.risks());
-    }
-
-    private static void promise8Refusals() {
-        CededBook book = new CededBook();
-        Check.throwing("8 no risk at all", Check.INDEX, () -> book.lose(0, 0, 1));
-        book.write(10, 0);
-        int[][] nowhere = {{1, 0, 1}, {-1, 0, 1}, {MIN, 0, 1}, {MAX, 0, 1}, {15, 0, 1},
-            {0, 4, 1}, {0, -1, 1}, {0, MIN, 1}, {0, MAX, 1}, {1, 0, 0}, {0, 4, 11}};
-        for (int[] row : nowhere) {
-            Check.throwing("8 lose " + row[0] + " " + row[1] + " " + row[2], Check.INDEX,
-                    () -> book.lose(row[0], row[1], row[2]));
-        }
-        int[] amounts = {0, -1, MIN, 11, MAX};
-        for (int amount : amounts) {
-            Check.throwing("8 amount " + amount, Check.ARGUMENT, () -> book.lose(0, 0, amount));
-        }
-        Check.is("8 nothing entered", 0, book.losses());
-        Check.is("8 least", 0, book.lose(0, 0, 1));
-        Check.is("8 most", 1, book.lose(0, 3, 10));
     }
 
     private static void promise8Numbers() {
@@ -94,23 +55,6 @@ public final class EntriesTest {
         Check.is("8 of the year of its risk", 20, book.borne(1, CededBook.KEPT));
     }
 
-    private static void promise9Refusals() {
-        CededBook book = new CededBook();
-        Check.throwing("9 no loss at all", Check.INDEX, () -> book.change(0, 0));
-        book.write(10, 0);
-        book.lose(0, 0, 5);
-        int[] nowhere = {1, -1, MIN, MAX, 40};
-        for (int loss : nowhere) {
-            Check.throwing("9 loss " + loss, Check.INDEX, () -> book.change(loss, 0));
-            Check.throwing("9 the index first", Check.INDEX, () -> book.change(loss, -1));
-        }
-        int[] amounts = {-1, MIN, 11, MAX};
-        for (int amount : amounts) {
-            Check.throwing("9 amount " + amount, Check.ARGUMENT, () -> book.change(0, amount));
-        }
-        Check.is("9 unchanged", 5, book.part(0, CededBook.KEPT));
-    }
-
     private static void promise9Effect() {
         CededBook book = new CededBook();
         book.write(10, 0);
@@ -129,21 +73,6 @@ public final class EntriesTest {
         Check.throwing("9 commuted", Check.STATE, () -> book.change(1, 4));
         Check.throwing("9 amount before commuted", Check.ARGUMENT, () -> book.change(1, 21));
         Check.is("9 stays", 3, book.part(1, CededBook.KEPT));
-    }
-
-    private static void promise10Refusals() {
-        CededBook book = new CededBook();
-        Check.throwing("10 year of now", Check.INDEX, () -> book.commute(0));
-        book.closeYear();
-        book.closeYear();
-        int[] nowhere = {2, 3, 10, 32, -1, -32, MIN, MAX};
-        for (int year : nowhere) {
-            Check.throwing("10 year " + year, Check.INDEX, () -> book.commute(year));
-        }
-        Check.is("10 an empty year", 0, book.commute(1));
-        Check.throwing("10 twice", Check.STATE, () -> book.commute(1));
-        Check.is("10 in any order", 0, book.commute(0));
-        Check.throwing("10 twice too", Check.STATE, () -> book.commute(0));
     }
 
     private static void promise10Answer() {

@@ -128,55 +128,6 @@ public final class ModelTest {
         }
         calls++;
         Check.is(run + ", call " + calls + ": " + name + Arrays.toString(a), model.call(name, a),
-                answer(name, a));
-    }
-
-    private String answer(String name, int[] a) {
-        try {
-            switch (name) {
-                case "setShares":
-                    book.setShares(a[0], a[1], a[2]);
-                    return "nothing";
-                case "setExcess":
-                    book.setExcess(a[0], a[1]);
-                    return "nothing";
-                case "setEvents":
-                    book.setEvents(a[0], a[1], a[2], a[3]);
-                    return "nothing";
-                case "setCommission":
-                    book.setCommission(a[0], a[1], a[2], a[3]);
-                    return "nothing";
-                case "setProfit":
-                    book.setProfit(a[0], a[1]);
-                    return "nothing";
-                default:
-                    return "" + number(name, a);
-            }
-        } catch (RuntimeException thrown) {
-            return thrown.getClass().getSimpleName();
-        }
-    }
-
-    private int number(String name, int[] a) {
-        switch (name) {
-            case "write": return book.write(a[0], a[1]);
-            case "lose": return book.lose(a[0], a[1], a[2]);
-            case "change": return book.change(a[0], a[1]);
-            case "commute": return book.commute(a[0]);
-            case "closeYear": return book.closeYear();
-            case "year": return book.year();
-            case "risks": return book.risks();
-            case "losses": return book.losses();
-            case "premium": return book.premium(a[0], a[1]);
-            case "part": return book.part(a[0], a[1]);
-            case "borne": return book.borne(a[0], a[1]);
-            case "byEvent": return book.byEvent(a[0], a[1]);
-            case "reinstatement": return book.reinstatement(a[0]);
-            case "net": return book.net(a[0]);
-            case "commission": return book.commission(a[0]);
-            case "share": return book.share(a[0]);
-            case "carried": return book.carried(a[0]);
-            default: throw new AssertionError(name);
-        }
+                Calls.answer(book, name, a));
     }
 }

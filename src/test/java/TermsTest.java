@@ -1,21 +1,12 @@
 /** Promises 1 to 6: a new object and its terms. */
 public final class TermsTest {
-    private static final int MIN = Integer.MIN_VALUE;
-    private static final int MAX = Integer.MAX_VALUE;
-
     public static void main(String[] args) {
         promise1();
-        promise2Ranges();
         promise2Effect();
-        promise3Ranges();
         promise3Effect();
-        promise4Ranges();
         promise4Effect();
-        promise5Ranges();
         promise5Effect();
-        promise6Ranges();
         promise6Effect();
-        refusedTermsChangeNothing();
         termsGoOnIntoTheNextYear();
         Check.end();
     }
@@ -80,30 +71,6 @@ public final class TermsTest {
         Check.is("1 other terms", 100, other.premium(0, CededBook.KEPT));
     }
 
-    private static void promise2Ranges() {
-        refusedShares(0, 0, 0);
-        refusedShares(-1, 0, 0);
-        refusedShares(MIN, 0, 0);
-        refusedShares(1000001, 0, 0);
-        refusedShares(MAX, 0, 0);
-        refusedShares(1, -1, 0);
-        refusedShares(1, 11, 0);
-        refusedShares(1, MAX, 0);
-        refusedShares(1, 0, -1);
-        refusedShares(1, 0, 10001);
-        refusedShares(1, 0, MIN);
-        new CededBook().setShares(1, 0, 0);
-        new CededBook().setShares(1000000, 10, 10000);
-    }
-
-    private static void refusedShares(int line, int lines, int quota) {
-        CededBook book = new CededBook();
-        Check.throwing("2 setShares", Check.ARGUMENT, () -> book.setShares(line, lines, quota));
-        book.write(1, 1);
-        Check.throwing("2 setShares, the argument first", Check.ARGUMENT,
-                () -> book.setShares(line, lines, quota));
-    }
-
     private static void promise2Effect() {
         CededBook book = new CededBook();
         book.setShares(1, 1, 1);
@@ -119,26 +86,6 @@ public final class TermsTest {
         Check.is("2 year before unchanged", 360, book.premium(0, CededBook.SURPLUS));
         Check.is("2 the next year", 450, book.premium(1, CededBook.SURPLUS));
         Check.is("2 the next year's quota", 0, book.premium(1, CededBook.QUOTA));
-    }
-
-    private static void promise3Ranges() {
-        refusedExcess(-1, 0);
-        refusedExcess(10000001, 0);
-        refusedExcess(MAX, 0);
-        refusedExcess(MIN, 0);
-        refusedExcess(0, -1);
-        refusedExcess(0, 10000001);
-        refusedExcess(0, MAX);
-        new CededBook().setExcess(0, 0);
-        new CededBook().setExcess(10000000, 10000000);
-    }
-
-    private static void refusedExcess(int priority, int layer) {
-        CededBook book = new CededBook();
-        Check.throwing("3 setExcess", Check.ARGUMENT, () -> book.setExcess(priority, layer));
-        book.write(1, 1);
-        Check.throwing("3 setExcess, the argument first", Check.ARGUMENT,
-                () -> book.setExcess(priority, layer));
     }
 
     private static void promise3Effect() {
@@ -163,30 +110,6 @@ public final class TermsTest {
         Check.is("3 year before unchanged", 40, book.part(7, CededBook.EXCESS));
     }
 
-    private static void promise4Ranges() {
-        refusedEvents(-1, 0, 0, 0);
-        refusedEvents(10000001, 0, 0, 0);
-        refusedEvents(MIN, 0, 0, 0);
-        refusedEvents(0, -1, 0, 0);
-        refusedEvents(0, 10000001, 0, 0);
-        refusedEvents(0, MAX, 0, 0);
-        refusedEvents(0, 0, -1, 0);
-        refusedEvents(0, 0, 4, 0);
-        refusedEvents(0, 0, 0, -1);
-        refusedEvents(0, 0, 0, 1000001);
-        new CededBook().setEvents(0, 0, 0, 0);
-        new CededBook().setEvents(10000000, 10000000, 3, 1000000);
-    }
-
-    private static void refusedEvents(int priority, int layer, int again, int premium) {
-        CededBook book = new CededBook();
-        Check.throwing("4 setEvents", Check.ARGUMENT,
-                () -> book.setEvents(priority, layer, again, premium));
-        book.write(1, 1);
-        Check.throwing("4 setEvents, the argument first", Check.ARGUMENT,
-                () -> book.setEvents(priority, layer, again, premium));
-    }
-
     private static void promise4Effect() {
         CededBook book = new CededBook();
         book.setEvents(10, 50, 2, 1000);
@@ -205,29 +128,6 @@ public final class TermsTest {
         Check.is("4 year before unchanged", 20, book.byEvent(0, 1));
     }
 
-    private static void promise5Ranges() {
-        refusedCommission(-1, 5, 0, 0);
-        refusedCommission(MIN, 5, 0, 0);
-        refusedCommission(20001, 20001, 0, 0);
-        refusedCommission(20001, 20002, 0, 0);
-        refusedCommission(MAX, MIN, 0, 0);
-        refusedCommission(5, 5, 0, 0);
-        refusedCommission(5, 4, 0, 0);
-        refusedCommission(0, 20002, 0, 0);
-        refusedCommission(0, MAX, 0, 0);
-        refusedCommission(0, 5, -1, -1);
-        refusedCommission(0, 5, 10001, 0);
-        refusedCommission(0, 5, 5, 6);
-        refusedCommission(0, 5, 5, -1);
-        new CededBook().setCommission(0, 1, 0, 0);
-        new CededBook().setCommission(20000, 20001, 10000, 10000);
-    }
-
-    private static void refusedCommission(int lower, int upper, int greatest, int least) {
-        Check.throwing("5 setCommission " + lower + " " + upper, Check.ARGUMENT,
-                () -> new CededBook().setCommission(lower, upper, greatest, least));
-    }
-
     private static void promise5Effect() {
         CededBook book = new CededBook();
         book.setShares(1000000, 0, 10000);
@@ -242,22 +142,6 @@ public final class TermsTest {
         Check.is("5 for the year of now", 800, book.commission(1));
     }
 
-    private static void promise6Ranges() {
-        refusedProfit(-1, 0);
-        refusedProfit(10001, 0);
-        refusedProfit(MAX, 0);
-        refusedProfit(0, -1);
-        refusedProfit(0, 10001);
-        refusedProfit(0, MIN);
-        new CededBook().setProfit(0, 0);
-        new CededBook().setProfit(10000, 10000);
-    }
-
-    private static void refusedProfit(int margin, int rate) {
-        Check.throwing("6 setProfit " + margin + " " + rate, Check.ARGUMENT,
-                () -> new CededBook().setProfit(margin, rate));
-    }
-
     private static void promise6Effect() {
         CededBook book = new CededBook();
         book.setShares(500, 1, 0);
@@ -270,29 +154,6 @@ public final class TermsTest {
         book.setProfit(0, 10000);
         Check.is("6 for a commuted year too", 1000, book.share(0));
         Check.is("6 for the year of now", 2000, book.share(1));
-    }
-
-    private static void refusedTermsChangeNothing() {
-        CededBook book = new CededBook();
-        book.setShares(100, 1, 5000);
-        book.setExcess(20, 10);
-        book.setEvents(5, 10, 1, 100);
-        book.setCommission(0, 1, 2000, 1000);
-        book.setProfit(0, 1000);
-        Check.throwing("2 refused", Check.ARGUMENT, () -> book.setShares(7, 2, 10001));
-        Check.throwing("3 refused", Check.ARGUMENT, () -> book.setExcess(7, 10000001));
-        Check.throwing("4 refused", Check.ARGUMENT, () -> book.setEvents(1, 1, 0, 1000001));
-        Check.throwing("5 refused", Check.ARGUMENT, () -> book.setCommission(9, 99, 50, 51));
-        Check.throwing("6 refused", Check.ARGUMENT, () -> book.setProfit(7, 10001));
-        book.write(200, 1000);
-        book.lose(0, 0, 100);
-        Check.is("2 kept to", 50, book.part(0, CededBook.SURPLUS));
-        Check.is("2 quota kept to", 25, book.part(0, CededBook.QUOTA));
-        Check.is("3 kept to", 5, book.part(0, CededBook.EXCESS));
-        Check.is("4 kept to", 10, book.byEvent(0, 0));
-        Check.is("4 premium kept to", 100, book.reinstatement(0));
-        Check.is("5 kept to", 25, book.commission(0));
-        Check.is("6 kept to", 45, book.share(0));
     }
 
     private static void termsGoOnIntoTheNextYear() {
